@@ -336,12 +336,8 @@ public final class YieldDesk {
             periods = 1;
             draft = 0;
             cap = 0;
-            startAnew();
-        }
-
-        void startAnew() {
             time = 0;
-            volume = cap;
+            volume = 0;
             fails = 0;
             lacking = 0;
             spilt = 0;
@@ -458,28 +454,27 @@ public final class YieldDesk {
             return had;
         }
 
-        /** How many ITEMS there are, or NO_FAULT less the FAULT; the basin is fit only for the first. */
+        /** How many ITEMS there are, or NO_FAULT less the FAULT: the basin is of no use then. */
         int readInto(Basin basin) {
             basin.becomeAsAtFirst();
             kind = NO_KIND;
             numbers = 0;
             items = 0;
             kindsTold = 0;
-            int place = 0;
-            while (place < length) {
-                int end = place + 1;
-                if (letterAt(place) != ' ') {
-                    end = endOfToken(place);
-                    if (!takesToken(place, end, basin)) {
-                        return NO_FAULT - place;
-                    }
+            int tokenEnd = 0;
+            for (int place = 0; place < length; place++) {
+                if (place < tokenEnd || letterAt(place) == ' ') {
+                    continue;
                 }
-                place = end;
+                tokenEnd = endOfToken(place);
+                if (!takesToken(place, tokenEnd, basin)) {
+                    return NO_FAULT - place;
+                }
             }
             if (kind != NO_KIND) {
                 return NO_FAULT - length;
             }
-            basin.startAnew();
+            basin.volume = basin.cap;
             return items;
         }
 

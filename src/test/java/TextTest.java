@@ -76,7 +76,11 @@ public final class TextTest {
         CHECKS.due("none about", 2, Checks.tell(desk, "i3 4;d5;"));
         CHECKS.due("n", 2, desk.count(0));
         CHECKS.due("blanks alone", 0, Checks.tell(desk, "   "));
+        Checks.tell(desk, "i 3 4;d 5;c 6;" + TEN);
         CHECKS.due("nothing", 0, Checks.tell(desk, ""));
+        CHECKS.due("as at first", Checks.stateOf(new YieldDesk()).equals(Checks.stateOf(desk)));
+        desk.undo();
+        CHECKS.due("DRAFT undone", 5, desk.count(1));
         YieldDesk full = new YieldDesk();
         StringBuilder wide = new StringBuilder("c 45");
         while (wide.length() < 119) {
