@@ -2,12 +2,26 @@
 final class Checks {
     private int wrong = 0;
     private int asked = 0;
+    private String sentence = "";
+
+    /** What the checks from here on are about, in the document's words. */
+    void sentence(String words) {
+        sentence = "[" + words + "] ";
+    }
 
     void due(String call, long want, long got) {
         asked++;
         if (got != want) {
             wrong++;
-            System.out.println(call + " answered " + got + ", due is " + want);
+            System.out.println(sentence + call + " answered " + got + ", due is " + want);
+        }
+    }
+
+    void same(String what, String want, String got) {
+        asked++;
+        if (!got.equals(want)) {
+            wrong++;
+            System.out.println(sentence + what + " is " + got + ", due is " + want);
         }
     }
 
@@ -42,13 +56,20 @@ final class Checks {
         return desk;
     }
 
+    static void passTo(YieldDesk desk, int time) {
+        for (int left = time - desk.count(3); left > 0; left -= 99) {
+            desk.passes(Math.min(left, 99));
+        }
+    }
+
     /** count(0) to count(8), inflows and losses: all that parts 1 and 2 tell. */
     static String stateOf(YieldDesk desk) {
         StringBuilder all = new StringBuilder();
         for (int what = 0; what <= 8; what++) {
             all.append(desk.count(what)).append(' ');
         }
-        for (int t = 0; t < desk.count(0); t++) {
+        int n = desk.count(0);
+        for (int t = 0; t < n; t++) {
             all.append('i').append(desk.inflow(t));
         }
         for (int v = 0; v < 1000; v += 100) {
